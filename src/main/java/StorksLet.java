@@ -124,9 +124,9 @@ public final class StorksLet {
         }
         switch (what) {
             case 0:
-                return now.strengthOf(bird);
+                return now.strength[bird];
             case 1:
-                return now.arrivalOf(bird);
+                return now.arrival[bird];
             case 2:
                 return now.nest[bird];
             case 3:
@@ -181,13 +181,13 @@ public final class StorksLet {
             return NONE;
         }
         if (what == STRENGTH && v >= 1 && v <= 9) {
-            int former = now.strengthOf(bird);
+            int former = now.strength[bird];
             now.setStrength(bird, v);
             return former;
         }
         if (what == ARRIVAL && v >= 0 && v <= 99) {
-            int former = now.arrivalOf(bird);
-            now.setArrival(bird, v);
+            int former = now.arrival[bird];
+            now.arrival[bird] = v;
             return former;
         }
         return NONE;
@@ -226,7 +226,7 @@ public final class StorksLet {
         now.saveTo(past.slot(), false);
         past.commit();
         int movesAhead = now.movesOfAll();
-        now.passDay();
+        now.passDays(1);
         told.putTwo(now.movesOfAll() - movesAhead, now.nowhere());
         return now.changedNests();
     }
@@ -314,7 +314,7 @@ public final class StorksLet {
     public int calm() {
         trial.copyFrom(now);
         for (int d = 0; d <= MOST_DAYS; d++) {
-            trial.passDay();
+            trial.passDays(1);
             if (trial.changedNests() == 0) {
                 told.putAll(trial.nest, trial.birds);
                 return d;
@@ -353,7 +353,7 @@ public final class StorksLet {
         }
         trial.copyFrom(now);
         for (int d = 1; d <= MOST_DAYS; d++) {
-            trial.passDay();
+            trial.passDays(1);
             if (trial.nest[bird] == NONE) {
                 return d;
             }
@@ -448,8 +448,15 @@ public final class StorksLet {
         int rounds = 0;
         boolean quiet = false;
         while (rounds < m && !quiet) {
-            quiet = courtRound(draft, n) == 0;
             rounds++;
+            quiet = true;
+            for (int l = 0; l < LORDS; l++) {
+                int roof = bestWheel(draft, l, n);
+                if (roof != NONE && draft.trait(WHEEL, roof) == 0 && gainOf(draft, roof, l, n) > 0) {
+                    draft.setTrait(WHEEL, roof, 1);
+                    quiet = false;
+                }
+            }
         }
         told.putTwo(quiet ? 1 : 0, draft.wheelBits());
         return rounds;
@@ -565,7 +572,7 @@ public final class StorksLet {
             if (felt != tried) {
                 tried = felt;
                 trial.copyFrom(now);
-                trial.setArrival(bird, felt);
+                trial.arrival[bird] = felt;
                 if (sightings.holdIn(trial)) {
                     return arrival;
                 }
@@ -718,7 +725,7 @@ public final class StorksLet {
     private int housedDays(int family, int n) {
         int housed = 0;
         for (int d = 0; d < n; d++) {
-            trial.passDay();
+            trial.passDays(1);
             if (trial.home[family] != NONE) {
                 housed++;
             }
@@ -769,18 +776,9 @@ public final class StorksLet {
         return best;
     }
 
-    /** How many LORDS put up a WHEEL in this round. */
-    private int courtRound(Town court, int n) {
-        int put = 0;
-        for (int l = 0; l < LORDS; l++) {
-            int roof = bestWheel(court, l, n);
-            if (roof != NONE && court.trait(WHEEL, roof) == 0
-                    && livingWithWheel(court, roof, l, n) > livingWithWheel(court, NONE, l, n)) {
-                court.setTrait(WHEEL, roof, 1);
-                put++;
-            }
-        }
-        return put;
+    /** How many FAMILIES more a LORD has by a WHEEL there. */
+    private int gainOf(Town from, int roof, int lord, int n) {
+        return livingWithWheel(from, roof, lord, n) - livingWithWheel(from, NONE, lord, n);
     }
 
     /** How likely just these BIRDS (bits) stay away, as a part of 10 to the power of BIRDS. */
@@ -1156,7 +1154,8 @@ public final class StorksLet {
         static final int IS_FAMILIES = 9;
 
         Rule law = null;
-        final int[] table = new int[MOST_BIRDS * MOST_ROOFS * 2];
+        final int[] ofOthers = new int[MOST_BIRDS * MOST_ROOFS];
+        final int[] ofNests = new int[MOST_BIRDS * MOST_ROOFS];
         final int[] things = new int[Rule.LETTERS.length()];
         boolean fresh = false;
         int madeOn = 0;
@@ -1170,7 +1169,8 @@ public final class StorksLet {
             fresh = other.fresh;
             madeOn = other.madeOn;
             if (fresh) {
-                System.arraycopy(other.table, 0, table, 0, table.length);
+                System.arraycopy(other.ofOthers, 0, ofOthers, 0, ofOthers.length);
+                System.arraycopy(other.ofNests, 0, ofNests, 0, ofNests.length);
             }
         }
 
@@ -1181,49 +1181,38 @@ public final class StorksLet {
             things[Rule.IS_DAY] = town.day;
             for (int b = 0; b < town.birds; b++) {
                 things[IS_BIRD] = b;
-                things[IS_STRENGTH] = town.strengthOf(b);
+                things[IS_STRENGTH] = town.strength[b];
                 things[IS_FAMILIES] = town.familiesOf(b);
                 for (int r = 0; r < town.roofs; r++) {
-                    fillRoof(town, r, b, law);
+                    for (int what = HEIGHT; what <= WHEEL; what++) {
+                        things[what] = town.trait(what, r);
+                    }
+                    things[IS_ROOF] = r;
+                    things[Rule.IS_NEST] = 0;
+                    ofOthers[b * MOST_ROOFS + r] = law.valueOf(things);
+                    things[Rule.IS_NEST] = 1;
+                    ofNests[b * MOST_ROOFS + r] =
+                            law.tellsNest ? law.valueOf(things) : ofOthers[b * MOST_ROOFS + r];
                 }
             }
             fresh = true;
             madeOn = town.day;
         }
 
-        void fillRoof(Town town, int roof, int bird, Rule rule) {
-            for (int what = HEIGHT; what <= WHEEL; what++) {
-                things[what] = town.trait(what, roof);
-            }
-            things[IS_ROOF] = roof;
-            things[Rule.IS_NEST] = 0;
-            int place = placeOf(roof, bird);
-            table[place] = rule.valueOf(things);
-            if (rule.tellsNest) {
-                things[Rule.IS_NEST] = 1;
-                table[place + 1] = rule.valueOf(things);
-            } else {
-                table[place + 1] = table[place];
-            }
-        }
-
-        static int placeOf(int roof, int bird) {
-            return (bird * MOST_ROOFS + roof) * 2;
-        }
-
+        /** WORTH of a ROOF where the BIRD has not its NEST. */
         int ofOther(int roof, int bird) {
-            return table[placeOf(roof, bird)];
+            return ofOthers[bird * MOST_ROOFS + roof];
         }
 
-        int ofOwn(int roof, int bird) {
-            return table[placeOf(roof, bird) + 1];
+        /** WORTH of a ROOF where the BIRD has its NEST. */
+        int ofNest(int roof, int bird) {
+            return ofNests[bird * MOST_ROOFS + roof];
         }
     }
 
     /** ROOFS, BIRDS and FAMILIES on a DAY. */
     private static final class Town {
         static final int ROOF_TRAITS = 5;
-        static final int BIRD_TRAITS = 2;
         static final int MOST_OWED = 9999;
         /** How long a saved state is: DAY, NESTS, homes, MOVES, FROGS, then what A SPRING changes, then a mark of that. */
         static final int STATE = 1 + MOST_BIRDS + 2 * MOST_FAMILIES + MOST_FAMILIES * LORDS
@@ -1234,7 +1223,8 @@ public final class StorksLet {
         int birds = 0;
         int families = 0;
         final int[] house = new int[ROOF_TRAITS * MOST_ROOFS];
-        final int[] flock = new int[BIRD_TRAITS * MOST_BIRDS];
+        final int[] strength = new int[MOST_BIRDS];
+        final int[] arrival = new int[MOST_BIRDS];
         final int[] nest = new int[MOST_BIRDS];
         final int[] sitter = new int[MOST_ROOFS];
         final int[] ahead = new int[MOST_BIRDS];
@@ -1254,7 +1244,8 @@ public final class StorksLet {
             birds = other.birds;
             families = other.families;
             System.arraycopy(other.house, 0, house, 0, house.length);
-            System.arraycopy(other.flock, 0, flock, 0, flock.length);
+            System.arraycopy(other.strength, 0, strength, 0, strength.length);
+            System.arraycopy(other.arrival, 0, arrival, 0, arrival.length);
             System.arraycopy(other.nest, 0, nest, 0, nest.length);
             System.arraycopy(other.sitter, 0, sitter, 0, sitter.length);
             System.arraycopy(other.keeper, 0, keeper, 0, keeper.length);
@@ -1295,11 +1286,11 @@ public final class StorksLet {
             sitter[roof] = NONE;
         }
 
-        void addBird(int strength, int arrival) {
+        void addBird(int itsStrength, int itsArrival) {
             int bird = birds;
             birds++;
-            setStrength(bird, strength);
-            setArrival(bird, arrival);
+            setStrength(bird, itsStrength);
+            arrival[bird] = itsArrival;
             nest[bird] = NONE;
         }
 
@@ -1324,21 +1315,9 @@ public final class StorksLet {
             worths.spoil();
         }
 
-        int strengthOf(int bird) {
-            return flock[STRENGTH * MOST_BIRDS + bird];
-        }
-
         void setStrength(int bird, int v) {
-            flock[STRENGTH * MOST_BIRDS + bird] = v;
+            strength[bird] = v;
             worths.spoil();
-        }
-
-        int arrivalOf(int bird) {
-            return flock[ARRIVAL * MOST_BIRDS + bird];
-        }
-
-        void setArrival(int bird, int v) {
-            flock[ARRIVAL * MOST_BIRDS + bird] = v;
         }
 
         void setKeeper(int family, int bird) {
@@ -1470,7 +1449,7 @@ public final class StorksLet {
 
         int worthNow(int roof, int bird) {
             worths.refresh(this);
-            return nest[bird] == roof ? worths.ofOwn(roof, bird) : worths.ofOther(roof, bird);
+            return nest[bird] == roof ? worths.ofNest(roof, bird) : worths.ofOther(roof, bird);
         }
 
         int dearestRoof(int bird) {
@@ -1485,13 +1464,13 @@ public final class StorksLet {
 
         boolean isOpenTo(int roof, int bird) {
             int other = sitter[roof];
-            return other == NONE || strengthOf(other) < strengthOf(bird);
+            return other == NONE || strength[other] < strength[bird];
         }
 
         /** Where a BIRD would go by (2), or NONE; WORTHS must have been refreshed. */
         int betterRoof(int bird) {
             int best = NONE;
-            int most = nest[bird] == NONE ? 0 : worths.ofOwn(nest[bird], bird);
+            int most = nest[bird] == NONE ? 0 : worths.ofNest(nest[bird], bird);
             for (int r = 0; r < roofs; r++) {
                 if (isOpenTo(r, bird) && worths.ofOther(r, bird) > most) {
                     most = worths.ofOther(r, bird);
@@ -1521,7 +1500,7 @@ public final class StorksLet {
 
         void sendAway(int bird) {
             leave(bird);
-            setArrival(bird, NEVER);
+            arrival[bird] = NEVER;
         }
 
         int restlessBirds() {
@@ -1561,29 +1540,29 @@ public final class StorksLet {
         // -- DAYS
 
         void passDays(int n) {
-            for (int d = 0; d < n; d++) {
-                passDay();
+            for (int i = 0; i < n; i++) {
+                worths.refresh(this);
+                System.arraycopy(nest, 0, ahead, 0, birds);
+                int cold = frosts > 0 && frost != null ? frost[day % frosts] : 0;
+                freeze(cold);
+                for (int b = 0; b < birds; b++) {
+                    if (arrival[b] <= day && strength[b] > cold) {
+                        lookForNest(b);
+                    }
+                }
+                for (int f = 0; f < families; f++) {
+                    followBird(f);
+                }
+                day++;
             }
         }
 
-        void passDay() {
-            worths.refresh(this);
-            System.arraycopy(nest, 0, ahead, 0, birds);
-            int cold = frosts > 0 && frost != null ? frost[day % frosts] : 0;
+        void freeze(int cold) {
             for (int b = 0; b < birds; b++) {
-                if (arrivalOf(b) <= day && strengthOf(b) <= cold) {
+                if (arrival[b] <= day && strength[b] <= cold) {
                     leave(b);
                 }
             }
-            for (int b = 0; b < birds; b++) {
-                if (arrivalOf(b) <= day && strengthOf(b) > cold) {
-                    lookForNest(b);
-                }
-            }
-            for (int f = 0; f < families; f++) {
-                followBird(f);
-            }
-            day++;
         }
 
         void lookForNest(int bird) {
@@ -1941,7 +1920,7 @@ public final class StorksLet {
         boolean holdIn(Town town) {
             int days = longest();
             for (int d = 1; d <= days; d++) {
-                town.passDay();
+                town.passDays(1);
                 for (int i = 0; i < size; i++) {
                     if (after[i] == d && town.nest[bird[i]] != roof[i]) {
                         return false;
