@@ -46,6 +46,7 @@ public final class StorksLet {
     private final int[][] stored = new int[KEPT][Town.STATE];
     private final int[] storedFor = new int[KEPT];
     private final Steps steps = new Steps();
+    private Search search = null;
     private final Sightings sightings = new Sightings();
     private final int[] odds = new int[MOST_BIRDS];
 
@@ -528,7 +529,14 @@ public final class StorksLet {
     }
 
     public int gently() {
-        return steps.isGoalFor(now) ? steps.searchGently(now, told) : -4;
+        if (!steps.isGoalFor(now)) {
+            return -4;
+        }
+        if (search == null) {
+            // Made by the first call that needs it, for it is larger than all the rest.
+            search = new Search();
+        }
+        return search.run(now, steps.goal, told);
     }
 
     // ---- rings on legs
@@ -719,6 +727,16 @@ public final class StorksLet {
             product *= base;
         }
         return product;
+    }
+
+    /** Tells for each ROOF which BIRD has its NEST there. */
+    private static void seatAll(int[] nest, int birds, int[] sitter) {
+        Arrays.fill(sitter, NONE);
+        for (int b = 0; b < birds; b++) {
+            if (nest[b] != NONE) {
+                sitter[nest[b]] = b;
+            }
+        }
     }
 
     /** On how many of the next DAYS of the trial a FAMILY lives somewhere. */
@@ -1636,7 +1654,7 @@ public final class StorksLet {
                 unpack(state, at, keeper, 0, MOST_FAMILIES);
                 worths.spoil();
             }
-            seatBirds();
+            seatAll(nest, birds, sitter);
         }
 
         /** Where in a state the next part goes. */
@@ -1649,15 +1667,6 @@ public final class StorksLet {
         static int unpack(int[] state, int at, int[] to, int start, int n) {
             System.arraycopy(state, at, to, start, n);
             return at + n;
-        }
-
-        void seatBirds() {
-            Arrays.fill(sitter, NONE);
-            for (int b = 0; b < birds; b++) {
-                if (nest[b] != NONE) {
-                    sitter[nest[b]] = b;
-                }
-            }
         }
     }
 
@@ -1934,10 +1943,6 @@ public final class StorksLet {
     /** THE AIM, and MOVES nest by nest towards it. */
     private static final class Steps {
         static final int OFF = 9;
-        static final int MOST_FOUND = 3000;
-        /** Each BIRD's place in a number that stands for NESTS, ROOFS being told from 1 on and none as 0. */
-        static final int[] PLACES = {1, 7, 49, 343, 2401, 16807};
-        static final int CODES = 117649;
 
         final int[] goal = new int[MOST_BIRDS];
         final int[] draft = new int[MOST_BIRDS];
@@ -1946,11 +1951,6 @@ public final class StorksLet {
         int birds = 0;
         final int[] nest = new int[MOST_BIRDS];
         final int[] sitter = new int[MOST_ROOFS];
-        final boolean[] liked = new boolean[MOST_BIRDS * MOST_ROOFS];
-        int[] found = null;
-        int[] cameBy = null;
-        int[] known = null;
-        int size = 0;
 
         int readGoal(Signs text, Town town) {
             if (text.length == 0 && town.birds > 0) {
@@ -1985,7 +1985,7 @@ public final class StorksLet {
 
         int takeFewest(Town town, Row row) {
             System.arraycopy(town.nest, 0, nest, 0, birds);
-            seat();
+            seatAll(nest, birds, sitter);
             row.clear();
             int moves = distance();
             for (int left = moves; left > 0; left--) {
@@ -2058,47 +2058,50 @@ public final class StorksLet {
             }
             return false;
         }
+    }
 
-        void seat() {
-            Arrays.fill(sitter, NONE);
-            for (int b = 0; b < birds; b++) {
-                if (nest[b] != NONE) {
-                    sitter[nest[b]] = b;
-                }
-            }
-        }
+    /** NESTS found one by one by gentle MOVES. */
+    private static final class Search {
+        static final int MOST = 3000;
+        /** Each BIRD's place in the number that stands for NESTS, ROOFS being told from 1 on and none as 0. */
+        static final int[] PLACES = {1, 7, 49, 343, 2401, 16807};
+        static final int DIGITS = MOST_ROOFS + 1;
+        static final int CODES = 117649;
+        static final int BITS = 32;
 
-        // -- the fewest gentle MOVES
+        final int[] found = new int[MOST];
+        /** For each one found: 100 times the place of that from which it was, and the MOVE. */
+        final int[] cameBy = new int[MOST];
+        final int[] known = new int[CODES / BITS + 1];
+        final boolean[] liked = new boolean[MOST_BIRDS * MOST_ROOFS];
+        final int[] nest = new int[MOST_BIRDS];
+        final int[] sitter = new int[MOST_ROOFS];
+        int roofs = 0;
+        int birds = 0;
+        int size = 0;
 
-        int searchGently(Town town, Row row) {
+        int run(Town town, int[] goal, Row row) {
+            open(town);
             int target = codeOf(goal);
-            openSearch(town);
-            if (found == null || cameBy == null) {
-                return -2;
-            }
             if (found[0] == target) {
                 row.clear();
                 return 0;
             }
             for (int i = 0; i < size; i++) {
-                int answer = searchFrom(i, target);
-                if (answer == -3) {
+                int place = searchFrom(i, target);
+                if (place == -3) {
                     return -3;
                 }
-                if (answer > 0) {
-                    return tellWay(answer, row);
+                if (place > 0) {
+                    return tellWay(place, row);
                 }
             }
             return -2;
         }
 
-        void openSearch(Town town) {
-            if (found == null) {
-                found = new int[MOST_FOUND];
-                cameBy = new int[MOST_FOUND];
-                known = new int[CODES / 32 + 1];
-            }
-            Arrays.fill(known, 0);
+        void open(Town town) {
+            roofs = town.roofs;
+            birds = town.birds;
             town.worths.refresh(town);
             for (int b = 0; b < birds; b++) {
                 for (int r = 0; r < roofs; r++) {
@@ -2106,8 +2109,9 @@ public final class StorksLet {
                     liked[b * MOST_ROOFS + r] = town.worths.ofOther(r, b) > 0;
                 }
             }
+            Arrays.fill(known, 0);
             size = 0;
-            addFound(codeOf(town.nest), 0);
+            add(codeOf(town.nest), 0);
         }
 
         int codeOf(int[] nests) {
@@ -2120,29 +2124,35 @@ public final class StorksLet {
 
         void setNests(int code) {
             for (int b = 0; b < birds; b++) {
-                nest[b] = code / PLACES[b] % (MOST_ROOFS + 1) - 1;
+                nest[b] = code / PLACES[b] % DIGITS - 1;
             }
-            seat();
+            seatAll(nest, birds, sitter);
         }
 
-        void addFound(int code, int by) {
-            found[size] = code;
-            cameBy[size] = by;
-            known[code >> 5] |= 1 << (code & 31);
-            size++;
+        void add(int code, int by) {
+            if (size < MOST) {
+                found[size] = code;
+                cameBy[size] = by;
+                known[code / BITS] |= 1 << code % BITS;
+                size++;
+            }
         }
 
-        /** Where the target was found by a MOVE from the NESTS found at i; 0 if it was not; -3 if there is no room left. */
+        boolean isKnown(int code) {
+            return (known[code / BITS] >> code % BITS & 1) != 0;
+        }
+
+        /** The target's place, if a MOVE from the NESTS at i finds it; else 0; -3 if there is one too many. */
         int searchFrom(int i, int target) {
             setNests(found[i]);
             for (int b = 0; b < birds; b++) {
                 for (int r = 0; r < roofs; r++) {
                     int code = found[i] + (r - nest[b]) * PLACES[b];
                     if (sitter[r] == NONE && liked[b * MOST_ROOFS + r] && !isKnown(code)) {
-                        if (size >= MOST_FOUND) {
+                        if (size >= MOST) {
                             return -3;
                         }
-                        addFound(code, i * 100 + b * 10 + r);
+                        add(code, i * 100 + b * 10 + r);
                         if (code == target) {
                             return size - 1;
                         }
@@ -2152,13 +2162,9 @@ public final class StorksLet {
             return 0;
         }
 
-        boolean isKnown(int code) {
-            return (known[code >> 5] >> (code & 31) & 1) != 0;
-        }
-
         int tellWay(int end, Row row) {
             int moves = 0;
-            for (int i = end; i > 0 && moves < MOST_FOUND; i = cameBy[i] / 100) {
+            for (int i = end; i > 0 && moves < MOST; i = cameBy[i] / 100) {
                 moves++;
             }
             row.size = Math.min(moves, Row.MOST);

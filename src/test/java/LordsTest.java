@@ -134,6 +134,9 @@ public final class LordsTest {
         s.days(4);
         due.is("bird 0 is driven off for a day", s.choose(0, 3), 1);
         due.row("three days, three frogs", s, 3, 3);
+        due.is("one day alone", s.choose(0, 1), 1);
+        due.row("one day alone", s, 1, 1);
+        due.is("60 days", s.choose(0, 60), 1);
         due.is("its own of as good ones", s.choose(2, 3), 2);
         due.row("bird 2 lives three days, too", s, 3, 0);
         s.swear(2, 0);

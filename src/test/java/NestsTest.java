@@ -10,6 +10,7 @@ public final class NestsTest {
         gentleMoves();
         gentleWithRule();
         gentleWayBeyondTheRow();
+        gentleOfSix();
         gentleEnd();
         nothingChanges();
         due.finish();
@@ -156,6 +157,18 @@ public final class NestsTest {
         Due.rule(s, "1-(i=0)*(r>1)-(i=1)*(r=3)");
         Due.aim(s, "1024-");
         due.is("never off", s.gently(), -2);
+    }
+
+    private static void gentleOfSix() {
+        StorksLet s = Due.town("r900@0;r800@0;r700@0;r600@0;r500@0;r400@0", "b5;b5/99;b5/99;b5/99;b5/99;b5");
+        s.day();
+        due.nests("start", s, 0, -1, -1, -1, -1, 1);
+        Due.aim(s, "1----0");
+        due.is("two change", s.gently(), 3);
+        due.row("two change", s, 2, 50, 1);
+        Due.aim(s, "5---43");
+        due.is("three moves", s.gently(), 3);
+        due.row("three moves", s, 5, 44, 53);
     }
 
     private static void gentleEnd() {

@@ -39,6 +39,10 @@ public final class RestTest {
         StorksLet s = Due.town(TownTest.TOWN);
         due.is("one", s.ways(), 1);
         due.row("one", s, 0, 1, 2);
+        s.days(4);
+        due.is("NESTS as they are do not matter", s.ways(), 1);
+        due.row("NESTS as they are do not matter", s, 0, 1, 2);
+        due.is("nor for the kindest", s.kindest(), 3);
         StorksLet t = Due.town("r500@0;r500@0;b5;b5");
         due.is("two", t.ways(), 2);
         due.row("the least", t, 0, 1);

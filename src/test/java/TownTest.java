@@ -157,10 +157,10 @@ public final class TownTest {
         // ROOF 1: h 3, s 2, v 5, w 1; BIRD 2: k 7, two FAMILIES.
         StorksLet s = Due.town("r505@0;r325w@1;r209@0;b5;b3/2;b7/4;f2;f1*2;f2*0");
         String[] rules = {"", "h", "s", "v", "w", "r", "i", "k", "o", "d", "f", "h+v-s", "h-v-s", "h-(v-s)", "h*v-s", "h-v*s",
-            "7/2", "-7/2", "7/-2", "0-7/2", "h/0", "h/(s-2)", "12/2*3", "12/(2*3)", "h<v", "h>v", "h=3", "3=h=1", "2*(h<v)", "1+2<4",
+            "7/2", "-7/2", "7/-2", "0-7/2", "h/0", "h/(s-2)", "12/2*3", "12/(2*3)", "h<v", "h>v", "v>h", "v<h", "h=3", "3=h=1", "2*(h<v)", "1+2<4",
             "(1+2<4)+1", "--h", "-h*-v", "999*h", "-999*h", "999*999*999*999", "h+999*999*999*999", "999*999*999*9/9/9", "h<v+1-9"};
         int[] values = {6, 3, 2, 5, 1, 1, 2, 7, 0, 0, 2, 6, -4, 0, 13, -7,
-            3, -3, -3, -3, 0, 0, 18, 2, 1, 0, 1, 6, 2, 1,
+            3, -3, -3, -3, 0, 0, 18, 2, 1, 0, 1, 0, 1, 6, 2, 1,
             2, 3, 15, 999, -999, -999, -999, 999, 0};
         for (int i = 0; i < rules.length; i++) {
             int answer = Due.rule(s, rules[i]);
@@ -184,6 +184,7 @@ public final class TownTest {
     private static void frostText() {
         StorksLet s = Due.town("r505@0;b5;f0");
         due.is("digits", Due.frost(s, "05"), 2);
+        due.is("the text is empty", s.count(11), 0);
         s.day();
         due.is("day 0", s.bird(0, 2), 0);
         s.day();
@@ -191,6 +192,7 @@ public final class TownTest {
         s.day();
         due.is("again from the first on", s.bird(0, 2), 0);
         due.is("wrong", Due.frost(s, "9x"), -2);
+        due.is("the text is empty all the same", s.count(11), 0);
         due.is("wrong at first", Due.frost(s, "-"), -1);
         s.day();
         due.is("frost is as it was", s.bird(0, 2), -1);
