@@ -79,6 +79,8 @@ public final class AheadTest {
         due.row("none yet", s, 0, 0, 0, 0);
         due.is("lord 1", s.income(1, 7), 4);
         due.row("lord 1", s, 12, 4, 0, 0);
+        due.is("the same again", s.income(1, 7), 4);
+        due.row("the same again", s, 12, 4, 0, 0);
         due.is("lord 3", s.income(3, 60), 0);
         due.is("lord 4", s.income(4, 1), -1);
         due.is("lord -1", s.income(-1, 1), -1);
@@ -114,6 +116,7 @@ public final class AheadTest {
         Due.frost(s, "9");
         due.is("FROST as it is told does not matter", s.bears(3), 2);
         due.is("no families", new StorksLet().bears(1), 9);
+        due.is("none at all is borne by the weakest", Due.town("r500@0;b1;f0").bears(1), 0);
         StorksLet t = Due.town("r500@0;b9;f0");
         due.is("8 is borne", t.bears(1), 8);
         t.day();

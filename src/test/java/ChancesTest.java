@@ -55,6 +55,10 @@ public final class ChancesTest {
         due.row("bird 2 takes what it wants", s, 1, 2);
         due.is("0 days: the first of equal ones", s.safest(0, 3), 0);
         due.row("0 days", s, 7, 10);
+        due.is("all are there", s.safest(30, 0), 0);
+        due.row("all are there", s, 1, 1);
+        due.is("one in ten is away", s.safest(0, 1), 0);
+        due.row("one in ten is away", s, 9, 10);
         due.is("all are away", s.safest(30, 10), 0);
         due.row("all are away", s, 0, 1);
         due.is("n 31", s.safest(31, 1), -1);

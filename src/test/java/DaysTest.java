@@ -43,6 +43,12 @@ public final class DaysTest {
         due.row("6 days", s, 13, 0);
         due.is("DAY", s.count(3), 6);
         due.is("as one", s.count(8), 1);
+        due.is("one day", s.days(1), 0);
+        due.is("can be undone", s.undo(), 1);
+        s.days(0);
+        due.is("no day can't", s.count(8), 1);
+        s.undo();
+        s.days(6);
         due.is("61", s.days(61), -1);
         due.is("-1", s.days(-1), -1);
         due.row("the row stays", s, 13, 0);
@@ -104,6 +110,11 @@ public final class DaysTest {
         Due.frost(s, "9");
         s.day();
         due.nests("one that is not there yet feels no frost and looks for nothing", s, 1);
+        s.ring(0, 1, s.count(3));
+        s.day();
+        due.nests("in the DAY of its ARRIVAL it feels it", s, -1);
+        s.undo();
+        s.ring(0, 1, 99);
         due.is("its family lives there", s.family(0, 2), 1);
         Due.addTown(s, "b9");
         Due.frost(s, "");
@@ -193,8 +204,8 @@ public final class DaysTest {
     private static void springWrong() {
         StorksLet s = Due.town(TownTest.TOWN);
         s.days(4);
-        String[] texts = {"q", "x", "f0", "f0>", "s0", "d;", "w12", "d0", "d12", "w0;;w1", "w0,w1", "xx", "f0<1", "s0x", "w0;q", ";", "d;d;x0;w"};
-        int[] places = {0, 1, 2, 3, 2, 2, 2, 1, 2, 3, 2, 1, 2, 2, 3, 0, 8};
+        String[] texts = {"q", "x", "f0", "f0>", "s0", "d;", "w12", "d0", "d12", "w0;;w1", "w0,w1", "xx", "w:", "s:", "s0:", "f:", "f0>:", "d:", "f0<1", "s0x", "w0;q", ";", "d;d;x0;w"};
+        int[] places = {0, 1, 2, 3, 2, 2, 2, 1, 2, 3, 2, 1, 1, 1, 2, 1, 3, 1, 2, 2, 3, 0, 8};
         for (int i = 0; i < texts.length; i++) {
             due.is("spring " + texts[i], Due.spring(s, texts[i]), -1 - places[i]);
             due.row("the row stays with " + texts[i], s, 8, 1);
@@ -296,6 +307,16 @@ public final class DaysTest {
         due.is("what is built stays", s.roof(0, 0), 2);
         due.is("wheels too", s.roof(0, 3), 1);
         due.is("and whom they swore", s.family(0, 0), 2);
+        s.days(5);
+        s.pay(1, 0, 1);
+        s.build(0, 3, 0);
+        s.build(0, 1, 6);
+        s.swear(0, 1);
+        s.undo();
+        s.undo();
+        due.is("with days and pay, too: wheels", s.roof(0, 3), 0);
+        due.is("smoke", s.roof(0, 1), 6);
+        due.is("oaths", s.family(0, 0), 1);
     }
 
     private static void undoOfSpring() {

@@ -88,6 +88,15 @@ public final class LordsTest {
         due.is("three lines", t.courts(1, 12), 2);
         due.row("roofs 0 and 2", t, 1, 5);
         due.is("nothing at all", new StorksLet().courts(1, 5), 1);
+        // The only bird lives under LORD 0 anyway: a WHEEL brings it nothing, and LORD 1 can't win.
+        StorksLet u = Due.town("r900@0;r800@0;r100@1;b5;f0");
+        Due.rule(u, "h+w*3");
+        due.is("nobody gains", u.courts(3, 12), 1);
+        due.row("nobody gains", u, 1, 0);
+        u.build(1, 3, 1);
+        due.is("as it is: roof 1", u.courts(3, 12), 1);
+        due.row("as it is: roof 1", u, 1, 2);
+        due.is("m 12, n 20", u.courts(20, 12), 1);
     }
 
     private static void winAsked() {
@@ -98,6 +107,10 @@ public final class LordsTest {
         s.build(1, 1, 0);
         due.is("3 + 8 is 11, the first of equal ones", s.win(0, 1, 1), 8);
         due.is("it is not there yet", s.win(1, 0, 2), -2);
+        StorksLet t = Due.town("r100@0;b5");
+        due.is("0 is enough", t.win(0, 0, 1), 0);
+        Due.rule(t, "v=9");
+        due.is("9 alone", t.win(0, 0, 1), 9);
         due.is("bird 3", s.win(3, 0, 1), -1);
         due.is("bird -1", s.win(-1, 0, 1), -1);
         due.is("roof 3", s.win(0, 3, 1), -1);
@@ -122,6 +135,10 @@ public final class LordsTest {
         due.is("bird -1", s.drive(-1, 1), -1);
         due.is("asked for first", s.drive(1, 61), -1);
         due.row("the row stays", s, -1);
+        StorksLet u = Due.town("r900@0;r100@0;b5");
+        u.day();
+        due.is("9 alone: 0 is less than 1", u.drive(0, 1), 9);
+        due.row("9 alone", u, 1);
         StorksLet t = Due.town("r900@0;r000@0;b5");
         t.day();
         due.is("smoke can't", t.drive(0, 60), -2);
@@ -154,6 +171,11 @@ public final class LordsTest {
         Due.rule(t, "f*(k=6)");
         due.is("the other likes families", t.choose(0, 5), 1);
         due.row("the other likes families", t, 5, 15);
+        t.swear(0, 1);
+        Due.rule(t, "f*(k=5)");
+        due.is("the first is better than its own", t.choose(0, 60), 0);
+        due.row("the first is better than its own", t, 60, 180);
+        t.swear(0, 0);
         Due.rule(t, "0");
         due.is("none is any good: its own", t.choose(0, 5), 0);
         due.row("none is any good", t, 0, 0);

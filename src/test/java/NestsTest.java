@@ -56,6 +56,11 @@ public final class NestsTest {
         due.is("birds came", s.fewest(), -4);
         s.days(3);
         due.is("told for four", Due.aim(s, "3---"), 4);
+        StorksLet t = Due.town("r111@0;b1");
+        Due.aim(t, "0");
+        due.is("one bird", t.fewest(), 1);
+        due.is("an empty text for one bird", Due.aim(t, ""), 0);
+        due.is("no aim", t.fewest(), -4);
         due.is("from nests as they are", s.fewest(), 3);
     }
 
@@ -181,7 +186,12 @@ public final class NestsTest {
         Due.aim(s, "--543");
         due.is("three moves", s.gently(), 3);
         due.row("three moves", s, 25, 34, 43);
+        Due.aim(s, "-0324");
+        due.is("the 3000th that is found, the first being these", s.gently(), 4);
+        due.row("the 3000th", s, 10, 23, 32, 44);
         s.rests();
+        Due.aim(s, "-0325");
+        due.is("the 3001st", s.gently(), -3);
         Due.aim(s, "54321");
         due.is("too far", s.gently(), -3);
         due.is("the row stays", s.count(10), 1);

@@ -80,6 +80,9 @@ public final class RingsTest {
         due.is("none such", s.latest(3), -1);
         due.is("none such", s.latest(-1), -1);
         due.is("arrival as it was", s.bird(2, 1), 4);
+        StorksLet u = Due.town("r500@0;b5/7");
+        u.seen(0, 0, 1);
+        due.is("it must have come at first", u.latest(0), 0);
         StorksLet t = Due.town("r500@0;b5/99");
         t.days(60);
         t.days(45);

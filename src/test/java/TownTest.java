@@ -43,6 +43,7 @@ public final class TownTest {
         due.is("end beyond", s.end(9), false);
         due.is("end below 0", s.end(-1), false);
         due.is("text stays", s.count(11), 8);
+        due.is("all of it", s.end(8), true);
         due.is("end", s.end(5), true);
         due.is("cut", s.count(11), 5);
         due.is("signs behind a cut text", s.sign(0x2F393900), 9);
@@ -63,6 +64,11 @@ public final class TownTest {
         due.is("end of all", s.end(80), true);
         due.is("a refused text", s.town(), -1);
         due.is("is empty too", s.count(11), 0);
+        due.is("an empty text ends at 0", s.end(0), true);
+        s.sign(1);
+        due.is("another too", s.end(0), true);
+        due.is("it is empty then", s.count(11), 0);
+        due.is("it has not 1", s.end(1), false);
     }
 
     private static void townLines() {
@@ -85,8 +91,8 @@ public final class TownTest {
 
     private static void townWrong() {
         String[] texts = {"x", "r", "r5", "r50", "r505", "r505w", "r505ww", "r505@", "r505@4", "r505@0@", "r505@0;", "b", "b0",
-            "b5/", "b5/x", "b5/123", "b5x", "f0", "b5;f1", "b5;f0*", "b5;f0*12", "b5;;b5", ";", "r50:", "R505@0", "f", "b5;fx"};
-        int[] places = {0, 1, 2, 3, 4, 5, 5, 5, 5, 6, 7, 1, 1, 3, 3, 5, 2, 1, 4, 6, 7, 3, 0, 3, 0, 1, 4};
+            "r:", "r0:", "r00/", "r000@:", "b:", "b5/:", "b5/1:", "b5;f:", "b5;f0*:", "b5/", "b5/x", "b5/123", "b5x", "f0", "b5;f1", "b5;f0*", "b5;f0*12", "b5;;b5", ";", "r50:", "R505@0", "f", "b5;fx"};
+        int[] places = {0, 1, 2, 3, 4, 5, 5, 5, 5, 6, 7, 1, 1, 1, 2, 3, 5, 1, 3, 4, 4, 6, 3, 3, 5, 2, 1, 4, 6, 7, 3, 0, 3, 0, 1, 4};
         for (int i = 0; i < texts.length; i++) {
             StorksLet s = new StorksLet();
             due.is("town " + texts[i], Due.addTown(s, texts[i]), -1 - places[i]);
@@ -157,10 +163,10 @@ public final class TownTest {
         // ROOF 1: h 3, s 2, v 5, w 1; BIRD 2: k 7, two FAMILIES.
         StorksLet s = Due.town("r505@0;r325w@1;r209@0;b5;b3/2;b7/4;f2;f1*2;f2*0");
         String[] rules = {"", "h", "s", "v", "w", "r", "i", "k", "o", "d", "f", "h+v-s", "h-v-s", "h-(v-s)", "h*v-s", "h-v*s",
-            "7/2", "-7/2", "7/-2", "0-7/2", "h/0", "h/(s-2)", "12/2*3", "12/(2*3)", "h<v", "h>v", "v>h", "v<h", "h=3", "3=h=1", "2*(h<v)", "1+2<4",
+            "7/2", "-7/2", "7/-2", "0-7/2", "h/0", "h/(s-2)", "12/2*3", "12/(2*3)", "h<v", "h>v", "v>h", "v<h", "v>v", "v<v", "h=3", "v=s", "v=v", "3=h=1", "2*(h<v)", "1+2<4",
             "(1+2<4)+1", "--h", "-h*-v", "999*h", "-999*h", "999*999*999*999", "h+999*999*999*999", "999*999*999*9/9/9", "h<v+1-9"};
         int[] values = {6, 3, 2, 5, 1, 1, 2, 7, 0, 0, 2, 6, -4, 0, 13, -7,
-            3, -3, -3, -3, 0, 0, 18, 2, 1, 0, 1, 0, 1, 6, 2, 1,
+            3, -3, -3, -3, 0, 0, 18, 2, 1, 0, 1, 0, 0, 0, 1, 0, 1, 6, 2, 1,
             2, 3, 15, 999, -999, -999, -999, 999, 0};
         for (int i = 0; i < rules.length; i++) {
             int answer = Due.rule(s, rules[i]);
@@ -194,6 +200,7 @@ public final class TownTest {
         due.is("wrong", Due.frost(s, "9x"), -2);
         due.is("the text is empty all the same", s.count(11), 0);
         due.is("wrong at first", Due.frost(s, "-"), -1);
+        due.is("no digit", Due.frost(s, "0:"), -2);
         s.day();
         due.is("frost is as it was", s.bird(0, 2), -1);
         due.is("40", Due.frost(s, "4".repeat(40)), 40);
