@@ -1678,14 +1678,12 @@ public final class StorksLet {
             if (text.length == 0) {
                 return 0;
             }
-            int lines = 0;
-            do {
-                if (!readLine(text, to)) {
-                    return text.wrongHere();
+            for (int lines = 1; lines <= TOWN_SIGNS && readLine(text, to); lines++) {
+                if (!text.take(';')) {
+                    return text.isReadWhole() ? lines : text.wrongHere();
                 }
-                lines++;
-            } while (text.take(';'));
-            return text.isReadWhole() ? lines : text.wrongHere();
+            }
+            return text.wrongHere();
         }
 
         static boolean readLine(Signs text, Town to) {
@@ -1778,13 +1776,13 @@ public final class StorksLet {
             if (text.length == 0) {
                 return NONE;
             }
-            do {
-                if (size >= MOST || !readWork(text)) {
-                    return text.at;
-                }
+            while (size < MOST && readWork(text)) {
                 size++;
-            } while (text.take(';'));
-            return text.isReadWhole() ? NONE : text.at;
+                if (!text.take(';')) {
+                    return text.isReadWhole() ? NONE : text.at;
+                }
+            }
+            return text.at;
         }
 
         boolean readWork(Signs text) {
