@@ -9,6 +9,7 @@ public final class AheadTest {
         incomeAsked();
         homelessAsked();
         bearsAsked();
+        daysOfTheRule();
         nothingChanges();
         due.finish();
     }
@@ -125,6 +126,25 @@ public final class AheadTest {
         // The weak one sits on the only roof with worth unless the frost drives it off for the strong one's family.
         StorksLet u = Due.town("r900@0;r100@0;b3;b7;f1");
         due.is("6", u.bears(2), 6);
+    }
+
+    /** WORTH of one DAY must not be taken for that of another, however the DAY came. */
+    private static void daysOfTheRule() {
+        StorksLet s = Due.town("r500@0;r500@0;b5");
+        Due.rule(s, "1+(r=d)*9");
+        s.keep(0);
+        due.is("day 0: roof 0", s.later(0, 1), 0);
+        s.day();
+        due.is("day 1: roof 1", s.worth(1, 0), 10);
+        s.again(0);
+        due.is("day 0 again: roof 0", s.later(0, 1), 0);
+        due.is("worth", s.worth(0, 0), 10);
+        s.day();
+        due.is("worth of day 1", s.worth(0, 0), 1);
+        s.undo();
+        due.is("undone: worth", s.worth(0, 0), 10);
+        due.is("day 1 to come", s.later(0, 2), 1);
+        due.is("now", s.bird(0, 5), 0);
     }
 
     private static void nothingChanges() {

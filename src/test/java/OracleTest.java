@@ -220,6 +220,12 @@ public final class OracleTest {
         return call("seen", bird, w.after(n).nests.get(bird), n);
     }
 
+    /** As much as there is room for. */
+    private boolean tellFullTown() {
+        return tell(townText(6, 0, 0)) && call("town") && tell(townText(0, 6, 0)) && call("town")
+            && tell(townText(0, 0, 8)) && call("town");
+    }
+
     private boolean run(long seed) {
         random = new Random(seed);
         storks = new StorksLet();
@@ -227,7 +233,7 @@ public final class OracleTest {
         told.clear();
         told.add("seed " + seed);
         boolean big = random.nextInt(12) == 0;
-        boolean good = tell(townText(big ? 6 : 1 + random.nextInt(5), big ? 5 : 1 + random.nextInt(5), random.nextInt(4))) && call("town");
+        boolean good = seed % 15 == 0 ? tellFullTown() : tell(townText(big ? 6 : 1 + random.nextInt(5), big ? 5 : 1 + random.nextInt(5), random.nextInt(4))) && call("town");
         good = good && tell(RULES[random.nextInt(RULES.length)]) && call("rule");
         for (int i = 0; i < 40 && good; i++) {
             String name = random.nextInt(2) == 0 ? ASKING[random.nextInt(ASKING.length)] : CHANGING[random.nextInt(CHANGING.length)];

@@ -23,6 +23,9 @@ public final class RingsTest {
             due.is("seen " + i, s.seen(0, -1, 60), i);
         }
         due.is("10 are enough", s.seen(0, -1, 60), -1);
+        due.is("all ten must be so", s.strengths(0), 0);
+        due.is("all ten must be so", s.latest(0), 99);
+        due.is("all ten must be so", s.absent(), 1);
         due.is("count", s.count(9), 10);
         due.is("forget", s.forget(), 10);
         due.is("count", s.count(9), 0);
