@@ -243,6 +243,32 @@ public final class OracleTest {
         return good;
     }
 
+    /** Each call with all numbers of these, on a town with all kinds of things: nothing but what is promised is thrown. */
+    private boolean extremes() {
+        int[] numbers = {Integer.MIN_VALUE, -61, -2, -1, 0, 1, 2, 5, 61, 1000, Integer.MAX_VALUE};
+        for (Method method : ofOracle.values()) {
+            int total = 1;
+            for (int i = 0; i < method.getParameterCount(); i++) total *= numbers.length;
+            for (int code = 0; code < total; code++) {
+                if (code % 150 == 0 && !startExtremes()) return false;
+                int[] args = new int[method.getParameterCount()];
+                for (int i = 0, left = code; i < args.length; i++, left /= numbers.length) args[i] = numbers[left % numbers.length];
+                if (!call(method.getName(), args)) return false;
+            }
+        }
+        return true;
+    }
+
+    private boolean startExtremes() {
+        random = new Random(1);
+        storks = new StorksLet();
+        oracle = new Oracle();
+        told.clear();
+        return tell(TownTest.TOWN) && call("town") && tell("h+v-s+o+d/3") && call("rule") && tell("0103") && call("frost")
+            && call("days", 5) && call("pay", 0, 0, 1) && call("keep", 1) && call("seen", 0, 2, 3)
+            && tell("21-") && call("aim") && tell("x;") && call("income", 0, 9);
+    }
+
     public static void main(String[] args) {
         int runs = args.length > 0 ? Integer.parseInt(args[0]) : 1500;
         long first = args.length > 1 ? Long.parseLong(args[1]) : 1;
@@ -252,6 +278,10 @@ public final class OracleTest {
                 System.out.println("OracleTest: seed " + seed + " differs");
                 System.exit(1);
             }
+        }
+        if (!test.extremes()) {
+            System.out.println("OracleTest: the extremes differ");
+            System.exit(1);
         }
         System.out.println("OracleTest: " + runs + " runs, " + test.asked + " calls, all agree");
     }
