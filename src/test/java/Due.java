@@ -3,6 +3,7 @@ import java.util.NoSuchElementException;
 /** What the tests share: texts told sign by sign, and answers compared with those that are due. */
 final class Due {
     private final String name;
+    private String about = "";
     private int asked = 0;
     private int wrong = 0;
 
@@ -64,11 +65,21 @@ final class Due {
         return storks.aim();
     }
 
+    /** Numbers that are not among these. */
+    static int[] outside(int least, int most) {
+        return new int[] {least - 1, least - 7, most + 1, most + 7, Integer.MIN_VALUE, Integer.MAX_VALUE};
+    }
+
+    /** What the answers asked for from now on are about. */
+    void about(String what) {
+        about = what;
+    }
+
     void is(String what, long got, long want) {
         asked++;
         if (got != want) {
             wrong++;
-            System.out.println(name + ": " + what + " answered " + got + ", due is " + want);
+            System.out.println(name + ": " + about + what + " answered " + got + ", due is " + want);
         }
     }
 
@@ -95,7 +106,7 @@ final class Due {
         try {
             int got = call.answer();
             wrong++;
-            System.out.println(name + ": " + what + " answered " + got + ", due is NoSuchElementException");
+            System.out.println(name + ": " + about + what + " answered " + got + ", due is NoSuchElementException");
         } catch (NoSuchElementException due) {
             // It is due.
         }
@@ -103,7 +114,7 @@ final class Due {
 
     /** Prints the sum and ends with 1 if an answer was wrong. */
     void finish() {
-        System.out.println(name + ": " + asked + " answers, " + wrong + " wrong");
+        System.out.println(name + ": " + about + asked + " answers, " + wrong + " wrong");
         if (wrong > 0) {
             System.exit(1);
         }

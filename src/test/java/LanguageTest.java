@@ -171,10 +171,10 @@ public final class LanguageTest {
     }
 
     public static void main(String[] args) throws IOException {
-        String source = Files.readString(Path.of(System.getenv("STORKS_SOURCE")));
+        String source = Files.readString(Path.of(System.getenv().getOrDefault("STORKS_SOURCE", "src/main/java/StorksLet.java")));
         words(bare(source));
         lengths(source);
-        face(facePromised(Files.readString(Path.of(System.getenv("STORKS_SHARED"), "DOC.md"))));
+        face(facePromised(Files.readString(Path.of(System.getenv().getOrDefault("STORKS_SHARED", "../shared"), "DOC.md"))));
         shapes();
         System.out.println("LanguageTest: " + wrong + " wrong");
         if (wrong > 0) {

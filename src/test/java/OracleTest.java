@@ -1,10 +1,13 @@
 import java.lang.reflect.InvocationTargetException;
 import java.lang.reflect.Method;
+import java.lang.reflect.Modifier;
 import java.util.ArrayList;
-import java.util.HashMap;
 import java.util.List;
 import java.util.Map;
 import java.util.Random;
+import java.util.TreeMap;
+import java.util.concurrent.atomic.AtomicLong;
+import java.util.stream.LongStream;
 
 /**
  * Runs of calls drawn by a fixed seed, each answered by the class and by the oracle: all answers and rows must agree.
@@ -18,24 +21,31 @@ public final class OracleTest {
     private static final String[] CHANGING = {
         "build", "ring", "swear", "sheet", "day", "days", "pay", "undo", "seen", "forget", "keep", "again",
         "TOWN", "RULE", "FROST", "SPRING", "SPRING", "AIM", "AIM"};
+    private static final int[] EXTREMES = {Integer.MIN_VALUE, -61, -2, -1, 0, 1, 2, 5, 61, 1000, Integer.MAX_VALUE};
     private static final String[] RULES = {
         "", "h+v-s", "h+v-s+o*3", "h*v-s*s+w*9", "k-r+d", "(h>s)*9-o*20", "9-i-r*(d/3=1)", "f*5+h-v", "w*99+h",
         "-h+9", "h*h*h*h*h*h*h*h*h*h*h*h", "999*999*999*999", "0-9", "v/(s-3)-o", "((((h))))+--v", "1+(r=i)*9",
         "d*d/7-h+v", "(r+d)-(r+d)/4*4+o", "r=i", "10-o*20", "5", "(h+v)*(1-w)+w*(k>4)*30"};
 
-    private final Map<String, Method> ofClass = new HashMap<>();
-    private final Map<String, Method> ofOracle = new HashMap<>();
-    private Random random;
-    private StorksLet storks;
-    private Oracle oracle;
+    private static final Map<String, Method> OF_CLASS = publicMethods(StorksLet.class);
+    private static final Map<String, Method> OF_ORACLE = publicMethods(Oracle.class);
+    private static final AtomicLong ASKED = new AtomicLong();
+    private final Random random;
+    private final StorksLet storks = new StorksLet();
+    private final Oracle oracle = new Oracle();
     private final List<String> told = new ArrayList<>();
-    private long asked = 0;
 
-    private OracleTest() {
-        for (Method m : StorksLet.class.getDeclaredMethods()) ofClass.put(m.getName(), m);
-        for (Method m : Oracle.class.getDeclaredMethods()) {
-            if (java.lang.reflect.Modifier.isPublic(m.getModifiers())) ofOracle.put(m.getName(), m);
+    private OracleTest(long seed) {
+        random = new Random(seed);
+        told.add("seed " + seed);
+    }
+
+    private static Map<String, Method> publicMethods(Class<?> of) {
+        Map<String, Method> methods = new TreeMap<>();
+        for (Method m : of.getDeclaredMethods()) {
+            if (Modifier.isPublic(m.getModifiers())) methods.put(m.getName(), m);
         }
+        return methods;
     }
 
     private static String answer(Object target, Method method, Object[] args) {
@@ -51,16 +61,13 @@ public final class OracleTest {
     private boolean call(String name, int... args) {
         Object[] boxed = new Object[args.length];
         for (int i = 0; i < args.length; i++) boxed[i] = args[i];
-        String got = answer(storks, ofClass.get(name), boxed);
-        String want = answer(oracle, ofOracle.get(name), boxed);
-        asked++;
+        String got = answer(storks, OF_CLASS.get(name), boxed);
+        String want = answer(oracle, OF_ORACLE.get(name), boxed);
+        ASKED.incrementAndGet();
         told.add(name + java.util.Arrays.toString(args) + " -> " + got);
         boolean good = got.equals(want) && storks.count(10) == oracle.count(10);
         for (int i = 0; good && i < oracle.count(10); i++) good = storks.row(i) == oracle.row(i);
-        if (!good) {
-            for (String line : told) System.out.println("  " + line);
-            System.out.println("due is " + want + ", the row " + oracle.row);
-        }
+        if (!good) told.add("due is " + want + ", the row " + oracle.row);
         return good;
     }
 
@@ -227,11 +234,6 @@ public final class OracleTest {
     }
 
     private boolean run(long seed) {
-        random = new Random(seed);
-        storks = new StorksLet();
-        oracle = new Oracle();
-        told.clear();
-        told.add("seed " + seed);
         boolean big = random.nextInt(12) == 0;
         boolean good = seed % 15 == 0 ? tellFullTown() : tell(townText(big ? 6 : 1 + random.nextInt(5), big ? 5 : 1 + random.nextInt(5), random.nextInt(4))) && call("town");
         good = good && tell(RULES[random.nextInt(RULES.length)]) && call("rule");
@@ -243,46 +245,50 @@ public final class OracleTest {
         return good;
     }
 
-    /** Each call with all numbers of these, on a town with all kinds of things: nothing but what is promised is thrown. */
-    private boolean extremes() {
-        int[] numbers = {Integer.MIN_VALUE, -61, -2, -1, 0, 1, 2, 5, 61, 1000, Integer.MAX_VALUE};
-        for (Method method : ofOracle.values()) {
-            int total = 1;
-            for (int i = 0; i < method.getParameterCount(); i++) total *= numbers.length;
-            for (int code = 0; code < total; code++) {
-                if (code % 150 == 0 && !startExtremes()) return false;
-                int[] args = new int[method.getParameterCount()];
-                for (int i = 0, left = code; i < args.length; i++, left /= numbers.length) args[i] = numbers[left % numbers.length];
-                if (!call(method.getName(), args)) return false;
-            }
-        }
-        return true;
-    }
-
-    private boolean startExtremes() {
-        random = new Random(1);
-        storks = new StorksLet();
-        oracle = new Oracle();
-        told.clear();
-        return tell(TownTest.TOWN) && call("town") && tell("h+v-s+o+d/3") && call("rule") && tell("0103") && call("frost")
+    /** A call with some of all groups of these numbers, on a town with all kinds of things. */
+    private boolean extremes(Method method, int from, int to) {
+        boolean good = tell(TownTest.TOWN) && call("town") && tell("h+v-s+o+d/3") && call("rule") && tell("0103") && call("frost")
             && call("days", 5) && call("pay", 0, 0, 1) && call("keep", 1) && call("seen", 0, 2, 3)
             && tell("21-") && call("aim") && tell("x;") && call("income", 0, 9);
+        for (int code = from; code < to && good; code++) {
+            int[] args = new int[method.getParameterCount()];
+            for (int i = 0, left = code; i < args.length; i++, left /= EXTREMES.length) args[i] = EXTREMES[left % EXTREMES.length];
+            good = call(method.getName(), args);
+        }
+        return good;
+    }
+
+    /** Nothing but what is promised is thrown, whatever the numbers are. */
+    private static boolean allExtremes() {
+        boolean good = true;
+        for (Method method : OF_ORACLE.values()) {
+            int total = 1;
+            for (int i = 0; i < method.getParameterCount(); i++) total *= EXTREMES.length;
+            for (int from = 0; from < total && good; from += 60) {
+                OracleTest test = new OracleTest(0);
+                good = test.extremes(method, from, Math.min(total, from + 60)) || test.tellAll();
+            }
+        }
+        return good;
+    }
+
+    /** What was asked, for it went wrong. */
+    private synchronized boolean tellAll() {
+        System.out.println(String.join("\n  ", told));
+        return false;
     }
 
     public static void main(String[] args) {
         int runs = args.length > 0 ? Integer.parseInt(args[0]) : 1500;
         long first = args.length > 1 ? Long.parseLong(args[1]) : 1;
-        OracleTest test = new OracleTest();
-        for (long seed = first; seed < first + runs; seed++) {
-            if (!test.run(seed)) {
-                System.out.println("OracleTest: seed " + seed + " differs");
-                System.exit(1);
-            }
-        }
-        if (!test.extremes()) {
-            System.out.println("OracleTest: the extremes differ");
+        boolean good = LongStream.range(first, first + runs).parallel().allMatch(seed -> {
+            OracleTest test = new OracleTest(seed);
+            return test.run(seed) || test.tellAll();
+        });
+        if (!good || !allExtremes()) {
+            System.out.println("OracleTest: the class and the oracle differ");
             System.exit(1);
         }
-        System.out.println("OracleTest: " + runs + " runs, " + test.asked + " calls, all agree");
+        System.out.println("OracleTest: " + runs + " runs, " + ASKED + " calls, all agree");
     }
 }

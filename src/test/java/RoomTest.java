@@ -2,13 +2,13 @@ import com.sun.management.ThreadMXBean;
 import java.lang.management.ManagementFactory;
 
 /**
- * All calls of a run share one room, so that calls make next to nothing: what 500 of the dearest ones make is measured,
+ * All calls of a run share one room, so that calls make next to nothing: what 50 of the dearest ones make is measured,
  * in bytes, an int being 4.
  */
 public final class RoomTest {
-    private static final int CALLS = 500;
+    private static final int CALLS = 50;
     private static final long MOST_FOR_OBJECT = 40_000;
-    private static final long MOST_FOR_CALLS = 60_000;
+    private static final long MOST_FOR_CALLS = 6_000;
     private static final ThreadMXBean BEAN = (ThreadMXBean) ManagementFactory.getThreadMXBean();
     private static int wrong = 0;
 
