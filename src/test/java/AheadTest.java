@@ -123,6 +123,12 @@ public final class AheadTest {
         t.day();
         t.ring(0, 1, 99);
         due.is("one that has a nest ahead of its arrival feels none", t.bears(1), 9);
+        StorksLet v = Due.town("r500@0;b5;f0");
+        Due.frost(v, "05");
+        v.bears(9);
+        for (int n = 1; n <= 6; n++) {
+            due.is("FROST as it is told counts again, " + n, v.later(0, n), n % 2 - 1);
+        }
         // The weak one sits on the only roof with worth unless the frost drives it off for the strong one's family.
         StorksLet u = Due.town("r900@0;r100@0;b3;b7;f1");
         due.is("6", u.bears(2), 6);

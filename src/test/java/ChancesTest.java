@@ -72,5 +72,13 @@ public final class ChancesTest {
         Due.addTown(t, "b9;f0;f1;f1");
         due.is("the stronger one's first family", t.safest(2, 4), 1);
         due.row("the stronger", t, 3, 5);
+        StorksLet u = Due.town("r500@0;b1;b2;b3;f2;f1;f0");
+        due.is("one roof for three", u.safest(3, 5), 0);
+        due.row("the strongest", u, 1, 2);
+        u.ring(2, 0, 1);
+        due.is("then the second", u.safest(3, 3), 1);
+        due.row("then the second", u, 7, 10);
+        u.chance(0, 3, 3);
+        due.row("any of three", u, 973, 1000);
     }
 }

@@ -158,6 +158,16 @@ public final class EdgesDaysTest {
                 d.row("x0, then " + stops[i], s, 1, 0);
                 s.undo();
             }
+            StorksLet more = Due.town("r505@0;r505@0;r505@0;b5;f0");
+            StorksLet fewer = Due.town("r505@0;b5;b5;b6;f0;f2");
+            more.day();
+            fewer.day();
+            d.is("no such BIRD, but a ROOF", Due.spring(more, "x1"), 0);
+            d.is("no such BIRD, but a ROOF", Due.spring(more, "f0>1"), 0);
+            d.is("a BIRD of no ROOF's number", Due.spring(fewer, "x2;f0>2"), 2);
+            d.is("it belongs to that", fewer.family(0, 0), 2);
+            d.is("no such ROOF, but a BIRD", Due.spring(fewer, "w1"), 0);
+            d.is("no such ROOF, but a BIRD", Due.spring(fewer, "s11"), 0);
             d.is("the WORK behind is not done", s.roof(0, 3), 0);
             d.is("all are done", Due.spring(s, "x0;w0"), 2);
             d.row("all are done", s, 0, 0);
@@ -256,6 +266,14 @@ public final class EdgesDaysTest {
             Due.spring(s, "x5;d");
             s.lord(1);
             d.row("a ROOF without a NEST", s, 1, 1);
+            StorksLet t = Due.town("r101@0;r101@0;r909@0;b5;f0;f0");
+            t.day();
+            t.lord(0);
+            d.row("the last of three ROOFS", t, 1, 2);
+            StorksLet u = Due.town("r101@0;b5;b5;b6;f0;f2");
+            u.day();
+            u.lord(0);
+            d.row("the last of three BIRDS", u, 1, 1);
         });
         edges.edge(20, "NONE: another LORD.", d -> {
             StorksLet s = fullTown();
@@ -338,6 +356,25 @@ public final class EdgesDaysTest {
                 d.is("to whom", s.family(0, 0) * 10 + s.family(1, 0), 1);
                 d.is("the BIRD on ROOF 0", s.roof(0, 5), 1);
             }
+        });
+        edges.edge(21, "and of spring() WHEELS, SMOKE, to whom they belong are as ahead of it", d -> {
+            StorksLet s = fullTown();
+            Due.spring(s, "w0;w5;s09;s59;f0>5;f6>1;f7>2");
+            s.undo();
+            d.is("WHEELS", s.roof(0, 3) + s.roof(5, 3), 0);
+            d.is("SMOKE", s.roof(0, 1) + s.roof(5, 1), 0);
+            int[] birds = {0, 1, 2, 3, 4, 5, 0, 5};
+            for (int f = 0; f < birds.length; f++) {
+                d.is("FAMILY " + f, s.family(f, 0), birds[f]);
+            }
+            StorksLet t = Due.town("r505@0;b5;b5;b6");
+            t.days(2);
+            Due.spring(t, "x2;d");
+            t.undo();
+            d.nests("more BIRDS than ROOFS", t, -1, -1, 0);
+            d.is("whose NEST it is", t.roof(0, 5), 2);
+            t.day();
+            d.nests("it is still strong", t, -1, -1, 0);
         });
         edges.edge(21, "The latest day(), days(), spring(), pay()", d -> {
             StorksLet s = Due.town("r505@0;r404@1;b5;f0*3");

@@ -155,6 +155,28 @@ public final class EdgesLordsTest {
             d.is("put up or left: the first is as good, for the other stays", s.wheel(0, 1), 0);
             d.row("as many as it is", s, 2, 2);
         });
+        edges.edge(31, "n DAYS (0 .. 60) on", d -> {
+            // In DAY 1 the BIRD comes to ROOF 2; from DAY 2 on it wants ROOFS of LORD 0 with a WHEEL alone.
+            StorksLet s = Due.town("r103@0;r203@0;r903@1;b5/1;f0");
+            Due.rule(s, "(d=1)*(r=2)+(d>1)*(r<2)*w*(r+1)");
+            d.is("1 DAY: nobody is there", s.wheel(0, 1), 0);
+            d.row("1 DAY", s, 0, 0);
+            d.is("2 DAYS: with the other LORD", s.wheel(0, 2), 0);
+            d.row("2 DAYS", s, 0, 0);
+            d.is("3 DAYS", s.wheel(0, 3), 0);
+            d.row("3 DAYS", s, 1, 0);
+            Due.rule(s, "(d=1)*(r=2)+(d>1)*(r=1)*(w*5)");
+            d.is("3 DAYS: the other ROOF", s.wheel(0, 3), 1);
+            d.row("3 DAYS", s, 1, 0);
+            d.is("LORD 1 has it at first", s.wheel(1, 2), 2);
+            d.row("2 DAYS", s, 1, 1);
+            d.is("and keeps it", s.wheel(1, 60), 2);
+            d.row("60 DAYS", s, 1, 1);
+            d.is("1 DAY: none gains", s.courts(1, 12), 1);
+            d.row("1 DAY", s, 1, 0);
+            d.is("3 DAYS: LORD 0 gains, by ROOF 1", s.courts(3, 12), 2);
+            d.row("3 DAYS", s, 1, 2);
+        });
         edges.edge(31, "of equal ones the first: it; the ROW: how many, how many as it is.", d -> {
             StorksLet s = Due.town(Edges.SIX_ROOFS, Edges.SIX_BIRDS, "f0;f1;f2;f3;f4;f5;f0;f5");
             d.is("LORD 1", s.wheel(1, 1), 4);
@@ -268,9 +290,12 @@ public final class EdgesLordsTest {
                 d.is("more than 0", s.win(0, 0, 60), height == 0 ? -2 : 10 - height);
                 d.is("its VIEW stays", s.roof(0, 2), height);
             }
-            StorksLet s = Due.town("r000@0;b5");
-            Due.rule(s, "1");
+            StorksLet s = Due.town("r000@0;r000@0;r000@0;b5");
+            Due.rule(s, "1+v");
             d.is("any", s.win(0, 0, 1), 0);
+            d.is("more ROOFS than BIRDS", s.win(0, 2, 1), 1);
+            StorksLet t = Due.town("r000@0;b5;b5;b6");
+            d.is("fewer", t.win(2, 0, 1), 1);
         });
         edges.edge(33, "-2: with none; NONE: others.", d -> {
             StorksLet s = Due.town("r505@0;r505@0;r505@0;b5/59;b6/99");
@@ -345,6 +370,12 @@ public final class EdgesLordsTest {
                 d.row("59", s, 59, 0);
                 d.is("it belongs to whom it did", s.family(2, 0), 3);
             });
+        edges.edge(35, "The BIRD a FAMILY would best belong to", d -> {
+            StorksLet s = Due.town("r505@0;b5;b6;f0;f0;f0*2");
+            d.is("more FAMILIES than BIRDS", s.choose(2, 60), 1);
+            d.row("more FAMILIES than BIRDS", s, 60, 120);
+            d.is("one BIRD", Due.town("r505@0;r505@0;b5;f0").choose(0, 1), 0);
+        });
         edges.edge(35, "NONE: others.", d -> {
             StorksLet s = Due.town("r505@0;b5;b5;f0;f1");
             s.rests();

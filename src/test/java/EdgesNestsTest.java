@@ -91,6 +91,10 @@ public final class EdgesNestsTest {
             StorksLet u = Due.town("r901@0;b5/99;b5;b5");
             u.day();
             Due.aim(u, "0--");
+            StorksLet v = town("b5;b5;b5;b5;b5");
+            Due.aim(v, "04325");
+            d.is("a ring, and two that wait", v.fewest(), 5);
+            d.row("the ring is broken by the ROOF that another wants", v, 25, 32, 23, 45, 14);
             d.is("the ROOF must be left ahead", u.fewest(), 2);
             d.row("the ROOF must be left ahead", u, 19, 0);
         });
@@ -160,6 +164,34 @@ public final class EdgesNestsTest {
             Due.aim(s, "-");
             d.is("never off", s.gently(), -2);
             d.is("fewest may", s.fewest(), 1);
+        });
+        edges.edge(38, "a BIRD may go to a ROOF alone that has more WORTH for it than 0", d -> {
+            StorksLet s = Due.town("r505@0;r505@0;r505@0;b5");
+            s.day();
+            Due.aim(s, "2");
+            Due.rule(s, "o");
+            d.is("elsewhere o is 0", s.gently(), -2);
+            Due.rule(s, "1-o");
+            d.is("elsewhere it is 1", s.gently(), 1);
+            Due.addTown(s, "r505@0;b5;b5;b5;b5");
+            Due.aim(s, "30---");
+            Due.rule(s, "i<2");
+            d.is("more ROOFS and BIRDS than ahead", s.gently(), 2);
+            d.row("more ROOFS and BIRDS than ahead", s, 3, 10);
+            StorksLet grown = Due.town("r505@0;b5");
+            Due.aim(grown, "0");
+            d.is("one BIRD", grown.gently(), 1);
+            Due.addTown(grown, "r505@0;b5");
+            Due.aim(grown, "10");
+            d.is("two BIRDS", grown.gently(), 2);
+            d.row("two BIRDS", grown, 1, 10);
+            StorksLet t = Due.town("r505@0;b5/99;b5/99;b5/99");
+            Due.aim(t, "--0");
+            Due.rule(t, "i=2");
+            d.is("the last of three BIRDS to the only ROOF", t.gently(), 1);
+            d.row("the last of three BIRDS to the only ROOF", t, 20);
+            Due.aim(t, "-0-");
+            d.is("the others do not want it", t.gently(), -2);
         });
         edges.edge(38, "how many; the ROW likewise.", d -> {
             StorksLet s = town("b5;b5");

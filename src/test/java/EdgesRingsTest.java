@@ -70,6 +70,25 @@ public final class EdgesRingsTest {
             d.is("nothing", s.forget(), 0);
             d.is("all is so", s.strengths(0), 1022);
             d.is("there is room again", s.seen(0, 0, 1), 1);
+            StorksLet t = Due.town("r505@0;b5;b6/99;b5/99");
+            t.seen(1, -1, 60);
+            t.seen(2, -1, 60);
+            t.forget();
+            t.seen(0, 0, 1);
+            t.absent();
+            d.row("another BIRD in another number of DAYS", t, 1);
+            t.seen(0, -1, 1);
+            t.absent();
+            d.row("both can't be", t, 0);
+        });
+        edges.edge(41, "all that was seen would be so", d -> {
+            StorksLet s = Due.town("r505@0;b5/9");
+            s.seen(0, -1, 12);
+            s.seen(0, -1, 3);
+            d.is("the one told first comes last", s.strengths(0), 0);
+            d.is("the latest ARRIVAL", s.latest(0), 99);
+            d.is("only without it", s.absent(), 1);
+            d.row("not as it is", s, 0);
         });
     }
 
@@ -120,6 +139,10 @@ public final class EdgesRingsTest {
             s.forget();
             s.seen(0, -1, 1);
             d.is("and none is away", s.latest(0), -2);
+            StorksLet late = Due.town("r505@0;b5/50");
+            late.days(30);
+            late.seen(0, -1, 1);
+            d.is("asked for the first time in DAY 30", late.latest(0), 99);
             StorksLet t = Due.town("r505@0;b5/50");
             t.seen(0, 0, 1);
             d.is("0", t.latest(0), 0);
@@ -157,6 +180,8 @@ public final class EdgesRingsTest {
             d.is("none", s.absent(), 0);
             d.row("so as it is", s, 1);
             d.is("no BIRDS", new StorksLet().absent(), 0);
+            d.is("more ROOFS than BIRDS", Due.town("r505@0;r505@0;r505@0;b5").absent(), 1);
+            d.is("fewer", Due.town("r505@0;b5;b5;b5").absent(), 7);
             d.nests("all stay", s, 0, 1, 2, 3, 4, 5);
         });
     }
@@ -315,6 +340,16 @@ public final class EdgesRingsTest {
     }
 
     private static void count() {
+        edges.edge(48, "4: BIRDS with a NEST (bits), 5: FAMILIES that live somewhere (bits)", d -> {
+            StorksLet s = Due.town("r505@0;r505@0;r505@0;b5;f0");
+            d.is("none", s.count(4), 0);
+            s.day();
+            d.is("more ROOFS than BIRDS", s.count(4), 1);
+            StorksLet t = Due.town("r505@0;b5;b5;b6;f0;f2");
+            t.day();
+            d.is("fewer", t.count(4), 4);
+            d.is("FAMILIES", t.count(5), 2);
+        });
         edges.edge(48, "NONE for another what.", d -> {
             StorksLet s = Due.town("b5");
             for (int what : Due.outside(0, 11)) {

@@ -128,6 +128,16 @@ public final class EdgesTermsTest {
             d.is("BIRD 1", s.bird(1, 0), 2);
             d.is("its BIRDS can have FAMILIES", Due.addTown(s, "b3;f2;f0"), 3);
             d.is("they belong to it", s.bird(2, 4), 1);
+            StorksLet t = Due.town("r505@1;r505@0;r505@0;b1;b1;f0;f1;f1*3");
+            t.days(2);
+            Due.addTown(t, "f1;f0;b1");
+            int[][] owed = {{0, 2}, {2, 0}, {6, 0}, {0, 0}, {0, 0}};
+            for (int f = 0; f < owed.length; f++) {
+                d.is("MOVES of FAMILY " + f, t.family(f, 3), f < 3 ? 1 : 0);
+                d.is("FROGS of FAMILY " + f + " for LORD 0", t.owes(f, 0), owed[f][0]);
+                d.is("FROGS of FAMILY " + f + " for LORD 1", t.owes(f, 1), owed[f][1]);
+            }
+            d.nests("NESTS", t, 0, 1, -1);
         });
         terms("perhaps w (a WHEEL)", d -> {
             StorksLet s = Due.town("r111w@0;r111@0");
@@ -167,6 +177,8 @@ public final class EdgesTermsTest {
                 "3>(2>1)", "(1<2)+(1<2)"}, new int[] {1, 0, 0, 1, 0, 0, 1, 0, 0, 1, 1, 1, 1, 2});
             d.is("three things", Due.rule(s, "1<2<3"), -4);
             d.is("in brackets, too", Due.rule(s, "7+(1=1+1>1)"), -9);
+            d.is("round brackets, too", Due.rule(s, "1<(2<3)<4"), -8);
+            d.is("behind brackets with one", worthBy(s, "(2<3)<4"), 1);
             d.is("one thing", Due.rule(s, "<2"), -1);
         });
         terms("then + - (from the left)", d -> {

@@ -149,6 +149,11 @@ public final class EdgesTownTest {
             d.is("at 0", Due.addTown(new StorksLet(), " b1"), -1);
             d.is("in the second LINE", Due.addTown(new StorksLet(), "b1;c1"), -4);
             d.is("; at the end", Due.addTown(new StorksLet(), "b1;"), -4);
+            String[] short1 = {"r@0", "r5@0", "r50@0", "rw@0", "r5w@0", "r50w@0", "r505w0", "r505@", "b/1", "b@0"};
+            int[] places = {1, 2, 3, 1, 2, 3, 5, 5, 1, 1};
+            for (int i = 0; i < short1.length; i++) {
+                d.is(short1[i], Due.addTown(new StorksLet(), short1[i]), -1 - places[i]);
+            }
         });
         edges.edge(4, "Nothing of it comes, if a LINE can't.", d -> {
             StorksLet s = Due.town("b1");
@@ -159,6 +164,66 @@ public final class EdgesTownTest {
             d.is("what comes next is the first", Due.addTown(s, "r222@0"), 1);
             d.is("what comes next is the first", s.roof(0, 0), 2);
         });
+        edges.edge(4, "Nothing of it comes", d -> nothingCame(d));
+    }
+
+    /** After a town that was refused no call knows the ROOF, the BIRD and the FAMILY that it told. */
+    private static void nothingCame(Due d) {
+        StorksLet s = Due.town("r505@0;b5");
+        s.keep(0);
+        s.day();
+        d.is("refused", Due.addTown(s, "r909@0;b9;f0;f1;q"), -17);
+        d.noSuch("ROOF 1", () -> s.roof(1, 0));
+        d.noSuch("BIRD 1", () -> s.bird(1, 0));
+        d.noSuch("FAMILY 0", () -> s.family(0, 0));
+        d.noSuch("WORTH of ROOF 1", () -> s.worth(1, 0));
+        d.noSuch("WORTH for BIRD 1", () -> s.worth(0, 1));
+        int[] answers = {s.build(1, 0, 1), s.ring(1, 0, 1), s.swear(0, 0), s.pay(0, 0, 1), s.owes(0, 0), s.later(1, 1), s.moves(0, 1),
+            s.homeless(1), s.win(1, 0, 1), s.win(0, 1, 1), s.drive(1, 1), s.choose(0, 1), s.seen(1, 0, 1), s.seen(0, 1, 1),
+            s.strengths(1), s.latest(1), s.chance(1, 1, 1), s.safest(1, 1), Due.spring(s, "w1"), Due.spring(s, "x1"), Due.spring(s, "f0>0")};
+        int[] want = {-1, -1, -1, -1, -1, -2, -1, -1, -1, -1, -1, -1, -1, -1, -1, -1, -1, -2, 0, 0, 0};
+        for (int i = 0; i < want.length; i++) {
+            d.is("call " + i, answers[i], want[i]);
+        }
+        d.is("VIEWS", s.sheet(2, 6, 1, 0), 1);
+        d.is("STRENGTHS", s.strengths(0), 1022);
+        d.is("who may be absent", s.absent(), 1);
+        d.is("an AIM for two", Due.aim(s, "0-"), -2);
+        d.is("an AIM for one", Due.aim(s, "0"), 1);
+        Due.addTown(s, "r909@0;b9;f0;f1;q");
+        d.is("it holds", s.fewest(), 0);
+        d.is("it holds", s.gently(), 0);
+        d.is("ways", s.ways(), 1);
+        s.chance(0, 1, 5);
+        d.row("one BIRD's chance", s, 1, 2);
+        d.is("rounds", s.courts(1, 1), 1);
+        d.row("no ROOF with a WHEEL", s, 1, 0);
+        d.is("no FAMILIES to bear FROST", s.bears(1), 9);
+        s.later(0, 1);
+        d.row("NESTS", s, 0);
+        d.is("to be undone", s.undo(), 0);
+        d.is("what was kept", s.again(0), true);
+        StorksLet full = Due.town("r101@0;r201@0;r301@0;r401@0", "b1;b1;b1;b1;b1;b1");
+        Due.addTown(full, "r501@0;q");
+        d.is("4 ROOFS are not too many", full.ways(), 360);
+        StorksLet wide = Due.town(FULL_ROOFS, "b1;b1;b1;b1;b1");
+        Due.addTown(wide, "b1;q");
+        d.is("5 BIRDS are not too many", wide.ways() > 0, true);
+        StorksLet t = Due.town("r505@0;b9;b1/99;f1");
+        t.day();
+        Due.addTown(t, "b9;f0;q");
+        d.is("the last FAMILY, the next BIRD", t.swear(0, 2), -1);
+        d.is("a BIRD for it", t.choose(0, 9), 0);
+        t.ring(0, 1, 99);
+        Due.spring(t, "x0");
+        d.is("no BIRD is any good", t.choose(0, 9), 1);
+        t.undo();
+        d.is("the safest of one", t.safest(0, 4), 0);
+        d.row("the safest of one", t, 0, 1);
+        t.swear(0, 0);
+        Due.addTown(t, "b9;f0;q");
+        t.safest(0, 4);
+        d.row("with its NEST", t, 3, 5);
     }
 
     private static void townTooLong() {
@@ -219,6 +284,21 @@ public final class EdgesTownTest {
             d.is("the rule stays", s.worth(0, 0), 7);
             d.is("40 signs", Due.rule(s, forty), 0);
             d.is("their value", s.worth(0, 0), 9 * 5 + 1 - 12);
+        });
+        edges.edge(5, "THE TEXT is THE RULE", d -> {
+            StorksLet s = new StorksLet();
+            for (String rule : new String[] {"7", "8", "1+", "9", "(", "2+3", ")"}) {
+                Due.rule(s, rule);
+            }
+            Due.addTown(s, "r529@0;b5");
+            d.is("told ahead of the first ROOF", s.worth(0, 0), 5);
+            String[] rules = {"7", "1+", "8", "9", "((h)", "10", "11", "x", ""};
+            int[] worths = {7, 7, 8, 9, 9, 10, 11, 11, 12};
+            for (int i = 0; i < rules.length; i++) {
+                Due.rule(s, rules[i]);
+                s.later(0, i);
+                d.is("after " + rules[i], s.worth(0, 0), worths[i]);
+            }
         });
     }
 
@@ -292,6 +372,17 @@ public final class EdgesTownTest {
             Due.frost(s, "9");
             s.day();
             d.is("driven off", s.bird(5, 3), 0);
+            StorksLet t = Due.town("r909@0;r909@0;r909@0;r909@0;b5;b5;b5");
+            Due.rule(t, "(r=i+1)+(r=0)*(i=2)");
+            t.day();
+            d.nests("one on", t, 1, 2, 0);
+            Due.rule(t, "r*10+i+1");
+            d.is("BIRD 0 on ROOF 1", t.bird(0, 3), 11);
+            d.is("BIRD 1 on ROOF 2", t.bird(1, 3), 22);
+            d.is("BIRD 2 on ROOF 0", t.bird(2, 3), 3);
+            Due.spring(t, "x2");
+            d.is("ROOF 0 is free, BIRD 0 has a NEST", t.bird(0, 3), 11);
+            d.is("BIRD 2 has none, ROOF 2 is taken", t.bird(2, 3), 0);
         });
         edges.edge(8, "4: how many FAMILIES belong to it", d -> {
             StorksLet s = fullTown();
@@ -365,6 +456,12 @@ public final class EdgesTownTest {
                 d.noSuch("both " + n, () -> s.worth(n, n));
             }
             d.is("the last ones", s.worth(1, 1), 8);
+            StorksLet more = Due.town("r505@0;r404@0;r303@0;b5");
+            d.is("more ROOFS than BIRDS", more.worth(2, 0), 6);
+            d.noSuch("more ROOFS than BIRDS", () -> more.worth(0, 2));
+            StorksLet fewer = Due.town("r505@0;b5;b6;b7");
+            d.is("fewer", fewer.worth(0, 2), 10);
+            d.noSuch("fewer", () -> fewer.worth(2, 0));
             StorksLet t = fullTown();
             Due.rule(t, "r*10+i");
             d.is("the sixth ones", t.worth(5, 5), 55);

@@ -64,6 +64,13 @@ public final class RestTest {
         u.ring(2, 0, 5);
         due.is("any of equal ones", u.ways(), 3);
         due.row("any of equal ones", u, -1, -1, 0);
+        u.ring(2, 0, 6);
+        u.day();
+        u.ring(2, 0, 5);
+        due.nests("the last bird has it", u, -1, -1, 0);
+        due.is("the last bird has it, but that does not matter", u.ways(), 3);
+        Due.rule(u, "0");
+        due.is("nor if none is a way, too", u.ways(), 4);
         due.is("no roofs", Due.town("b1;b1").ways(), 1);
         due.is("nothing at all", new StorksLet().ways(), 1);
     }
