@@ -9,6 +9,7 @@ import java.util.TreeSet;
  * ../shared).
  */
 final class Edges {
+    static final int WHAT_IT_IS = -1;
     static final int TERMS = 0;
     /** Six that differ in WORTH, and six BIRDS that come to have them one behind the other. */
     static final String SIX_ROOFS = "r901@0;r801@0;r701@0;r601@0;r501@1;r401@1";
@@ -28,9 +29,20 @@ final class Edges {
         void run(Due due);
     }
 
-    /** The part of the document behind a heading; TERMS for promise 0. */
+    private static String heading(int promise) {
+        switch (promise) {
+            case WHAT_IT_IS:
+                return "What it is";
+            case TERMS:
+                return "Terms";
+            default:
+                return "Promise " + promise;
+        }
+    }
+
+    /** The part of the document behind a heading. */
     private String section(int promise) {
-        int start = document.indexOf(promise == TERMS ? "## Terms" : "## Promise " + promise + ":");
+        int start = document.indexOf("## " + heading(promise) + (promise > TERMS ? ":" : "\n"));
         int end = document.indexOf("\n## ", start);
         return start < 0 ? "" : document.substring(start, end < 0 ? document.length() : end);
     }
@@ -38,7 +50,7 @@ final class Edges {
     void edge(int promise, String words, Check check) {
         edges++;
         promises.add(promise);
-        due.about((promise == TERMS ? "Terms" : "promise " + promise) + ", \"" + words + "\": ");
+        due.about(heading(promise) + ", \"" + words + "\": ");
         due.is("the document says so", section(promise).contains(words), true);
         check.run(due);
     }
@@ -46,7 +58,7 @@ final class Edges {
     /** Each promise of these must have had an edge. */
     void finish(int first, int last) {
         for (int promise = first; promise <= last; promise++) {
-            due.about("promise " + promise + ": ");
+            due.about(heading(promise) + ": ");
             due.is("it has an edge", promises.contains(promise), true);
         }
         due.about(edges + " edges, ");

@@ -19,6 +19,7 @@ public final class EdgesTermsTest {
         familiesMove();
         frogsOwed();
         rowsAndFractions();
+        manyCalls();
         textsRead();
         noneFirst();
         rowStays();
@@ -454,13 +455,25 @@ public final class EdgesTermsTest {
                 d.row(t + " tenths", s, fractions[t]);
             }
         });
-        edges.edge(Edges.TERMS, "NESTS are told as a ROOF for each BIRD", d -> {
-            // An object is used for at most 512 calls: the last of them answers as it should.
+    }
+
+    private static void manyCalls() {
+        edges.edge(Edges.WHAT_IT_IS, "An object is used for at most 512 calls after it has been made", d -> {
             StorksLet s = new StorksLet();
             for (int i = 0; i < 511; i++) {
                 s.day();
             }
             d.is("the 512th call", s.count(3), 511);
+            StorksLet t = Due.town("r505@0;b5;f0*9");
+            Due.rule(t, "d");
+            for (int i = 0; i < 490; i++) {
+                t.days(60);
+            }
+            d.is("DAY", t.count(3), 29400);
+            d.is("WORTH is put to 999", t.worth(0, 0), 999);
+            d.is("FROGS", t.owes(0, 0), 9999);
+            d.is("MOVES", t.count(6), 1);
+            d.is("what can be undone", t.count(8), 12);
         });
     }
 
