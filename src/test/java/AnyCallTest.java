@@ -11,7 +11,7 @@ import java.util.Set;
 import java.util.stream.LongStream;
 
 /**
- * 512 calls each of many objects, with any numbers and any texts: no call throws but NoSuchElementException, and that
+ * Some hundred calls each of many objects, with any numbers and any texts: no call throws but NoSuchElementException, and that
  * only where the document says so; the same calls give the same answers.
  */
 public final class AnyCallTest {
@@ -20,12 +20,13 @@ public final class AnyCallTest {
         20, 21, 30, 31, 60, 61, 99, 100, 999, 1000};
     private static final String[] PARTS = {"r505@0;", "b5;", "f0;", "f1*2;", "b7/12;", "r999w@3;", "w0;", "d9;", "x1;", "s12;", "f0>1;",
         "d;", "h+v", "(h", "*2)", "<k", "o*9", "-", "0", "1", "2", "3", "9", "5", ";", "@", "/", "d/2", ")", "i", "r=i"};
-    private static final List<Method> CALLS = calls();
+    private static final List<Method> CALLS = calls(".*");
+    private static final List<Method> READERS = calls("town|rule|frost|spring|aim");
 
-    private static List<Method> calls() {
+    private static List<Method> calls(String names) {
         List<Method> calls = new ArrayList<>();
         for (Method m : StorksLet.class.getDeclaredMethods()) {
-            if (Modifier.isPublic(m.getModifiers())) {
+            if (Modifier.isPublic(m.getModifiers()) && m.getName().matches(names)) {
                 calls.add(m);
             }
         }
@@ -60,11 +61,13 @@ public final class AnyCallTest {
         Random random = new Random(seed);
         StorksLet s = new StorksLet();
         int all = 0;
-        for (int i = 0; i < 512; i++) {
-            if (random.nextInt(3) == 0) {
+        for (int i = 0; i < 300; i++) {
+            boolean reads = random.nextInt(3) == 0;
+            if (reads) {
                 Due.tell(s, anyText(random));
             }
-            Method call = CALLS.get(random.nextInt(CALLS.size()));
+            List<Method> calls = reads ? READERS : CALLS;
+            Method call = calls.get(random.nextInt(calls.size()));
             Object[] numbers = anyNumbers(random, call.getParameterCount());
             try {
                 all = all * 31 + call.invoke(s, numbers).hashCode();
