@@ -311,7 +311,19 @@ public final class EdgesTownTest {
             d.is("none", s.frost(), 0);
             s.day();
             d.nests("mild", s, 0);
-            d.is("40", Due.frost(s, "0123456789".repeat(4)), 40);
+        });
+        edges.edge(Edges.TERMS, "FROST is a text of at most 40 signs", d -> {
+            StorksLet s = Due.town("r505@0;b5");
+            d.is("40", Due.frost(s, "0".repeat(39) + "9"), 40);
+            s.days(39);
+            d.nests("DAYS 0 .. 38", s, 0);
+            s.day();
+            d.nests("DAY 39", s, -1);
+            s.day();
+            d.nests("DAY 40: the first again", s, 0);
+            d.is("41", Due.frost(s, "0".repeat(41)), -41);
+            s.days(39);
+            d.nests("DAY 79: as it was", s, -1);
         });
         edges.edge(6, "-1 - p: the sign at p can't stand there (40, if it has more and the first 40 could go on or "
             + "end).", d -> {
@@ -591,6 +603,11 @@ public final class EdgesTownTest {
     }
 
     private static void sheetKinds() {
+        edges.edge(14, "or a missing one (3): those behind it have 0", d -> {
+            StorksLet s = Due.town("r505@0;r507@0");
+            d.is("with entries told", s.sheet(3, 2, 9, 0), -3);
+            d.is("all are behind it", s.roof(0, 2) + s.roof(1, 2), 0);
+        });
         edges.edge(14, "-2: n below 0 (of kinds 0 .. 2; nothing changes); -3: missing (all 0).", d -> {
             StorksLet s = Due.town("r505@0;r507@0");
             for (int kind = 0; kind <= 2; kind++) {
